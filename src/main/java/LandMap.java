@@ -17,6 +17,7 @@ public final class LandMap {
   private static final int SIDE = 50;
   private static final int CELLS = SIDE * SIDE;
   private static final int LONGEST_SIDE = 10000;
+  private static final int NINE_DIGITS = 999999999;
 
   private static final int HOTS = 6000;
   private static final int PIECES = 9000;
@@ -55,7 +56,7 @@ public final class LandMap {
   private int pastCount;
   private int placesMade;
   private final Ints spots;
-  private Laying laid;
+  private Laying current;
   private Laying spare;
   private final int[] second;
   private final int[] entries;
@@ -104,7 +105,12 @@ public final class LandMap {
   public int read(int layer) {
     tray.begin();
     rules.forget();
-    int answer = readInto(layer);
+    int answer = NO_NUMBER;
+    if (isLayer(layer)) {
+      if (!draft.parse(tray)) answer = FAULT;
+      else if (!rules.hold(draft)) answer = BROKEN;
+      else answer = hasRoomFor(layers[layer].numbers()) ? takeDraft(layer, layers[layer]) : NO_ROOM;
+    }
     tray.useUp();
     return answer;
   }
@@ -166,7 +172,14 @@ public final class LandMap {
 
   public int move(int layer, int f, int row, int k) {
     rules.forget();
-    int answer = movePlace(layer, f, row, k);
+    Feature it = featureOf(layer, f);
+    int index = it == null || spots.count != 2 ? -1 : it.indexOf(row, k);
+    int answer = NO_NUMBER;
+    if (it != null && index >= 0) {
+      draftMove(it, row, index);
+      if (!rules.hold(draft)) answer = BROKEN;
+      else answer = placesMade + draft.xs.count <= PLACES_FOR_LIFE ? takeMove(layer, f) : NO_ROOM;
+    }
     spots.clear();
     return answer;
   }
@@ -195,67 +208,68 @@ public final class LandMap {
     if (!isLayer(a) || b != -1 && !isLayer(b)) return NO_NUMBER;
     Laying fresh = spareLaying();
     if (!fresh.build(layers[a], b == -1 || b == a ? none : layers[b])) return NO_ROOM;
-    spare = laid;
-    laid = fresh;
+    fresh.faces.build(fresh);
+    spare = current;
+    current = fresh;
     router.forget();
-    return laid.pieces();
+    return current.pieces();
   }
 
   public int laid(int what) {
     if (what < 0 || what > 5) return NO_NUMBER;
-    if (laid == null) return NOT_LAID;
-    if (what == 1) return laid.pieces();
-    if (what == 2) return laid.faces.count;
-    if (what == 4) return aboveNothing(laid.goA);
-    if (what == 5) return aboveNothing(laid.goB);
+    if (current == null) return NOT_LAID;
+    if (what == 1) return current.pieces();
+    if (what == 2) return current.faces.count;
+    if (what == 4) return aboveNothing(current.goA);
+    if (what == 5) return aboveNothing(current.goB);
     // Every hot place is a node: a vertex, or a crossing that bends two edges.
-    return laid.nodes();
+    return current.nodes();
   }
 
   public int node(int n, int what) {
-    if (laid == null || n < 0 || n >= laid.nodes()) return NO_PLACE;
-    if (what == 0) return laid.nodeX.get(n);
-    if (what == 1) return laid.nodeY.get(n);
-    if (what == 2) return laid.degree(n);
+    if (current == null || n < 0 || n >= current.nodes()) return NO_PLACE;
+    if (what == 0) return current.nodeX.get(n);
+    if (what == 1) return current.nodeY.get(n);
+    if (what == 2) return current.degree(n);
     return NO_PLACE;
   }
 
   public int piece(int p, int what) {
     if (what < 0 || what > 5) return NO_NUMBER;
-    if (laid == null) return NOT_LAID;
-    if (p < 0 || p >= laid.pieces()) return NO_NUMBER;
-    if (what == 0) return laid.from.get(p);
-    if (what == 1) return laid.to.get(p);
-    if (what == 2) return laid.faces.wayFace.get(2 * p);
-    if (what == 3) return laid.faces.wayFace.get(2 * p + 1);
-    return what == 4 ? laid.goA.get(p) : laid.goB.get(p);
+    if (current == null) return NOT_LAID;
+    if (p < 0 || p >= current.pieces()) return NO_NUMBER;
+    if (what == 0) return current.from.get(p);
+    if (what == 1) return current.to.get(p);
+    if (what == 2) return current.faces.wayFace.get(2 * p);
+    if (what == 3) return current.faces.wayFace.get(2 * p + 1);
+    return what == 4 ? current.goA.get(p) : current.goB.get(p);
   }
 
   public int face(int f, int what) {
     if (what < 0 || what > 5) return NOTHING;
-    if (laid == null) return BROKEN;
-    if (f < 0 || f >= laid.faces.count) return NOTHING;
-    if (what == 0) return laid.faces.rings.get(f);
-    if (what == 1) return laid.faces.ways.get(f);
-    if (what == 2) return laid.faces.coverA.get(f);
-    if (what == 3) return laid.faces.coverB.get(f);
-    return what == 4 ? laid.faces.leastA.get(f) : laid.faces.leastB.get(f);
+    if (current == null) return BROKEN;
+    if (f < 0 || f >= current.faces.count) return NOTHING;
+    if (what == 0) return current.faces.rings.get(f);
+    if (what == 1) return current.faces.ways.get(f);
+    if (what == 2) return current.faces.coverA.get(f);
+    if (what == 3) return current.faces.coverB.get(f);
+    return what == 4 ? current.faces.leastA.get(f) : current.faces.leastB.get(f);
   }
 
   public long faceArea2(int f) {
-    if (laid == null || f <= 0 || f >= laid.faces.count) return 0;
-    return laid.faces.area2Of(f);
+    if (current == null || f <= 0 || f >= current.faces.count) return 0;
+    return current.faces.area2Of(f);
   }
 
   public int locate(int x, int y) {
-    if (laid == null) return NOWHERE;
-    return inBounds(x, y) ? laid.find(x, y) : 0;
+    if (current == null) return NOWHERE;
+    return inBounds(x, y) ? current.find(x, y) : 0;
   }
 
   public int overlay(int layer, int way, boolean split) {
     if (!isLayer(layer) || way < 0 || way > 3) return NO_NUMBER;
-    if (laid == null) return NOT_LAID;
-    if (!joiner.join(laid, way, split, draft) || !hasRoomFor(0)) return NO_ROOM;
+    if (current == null) return NOT_LAID;
+    if (!joiner.join(current, way, split, draft) || !hasRoomFor(0)) return NO_ROOM;
     return takeDraft(layer, none);
   }
 
@@ -269,13 +283,16 @@ public final class LandMap {
   public int relate(int layer, int f, int i, int j) {
     if (i < 0 || i > 2 || j < 0 || j > 2) return NO_NUMBER;
     int code = layTwo(layer, f);
-    return code < 0 ? code : entries[3 * i + j];
+    if (code < 0) return code;
+    fillEntries(spareLaying());
+    return entries[3 * i + j];
   }
 
   public int relation(int layer, int f, int name) {
     if (name < 0 || name > 6) return NO_NUMBER;
     int code = layTwo(layer, f);
     if (code < 0) return code;
+    fillEntries(spareLaying());
     return bearsName(name, featureOf(layer, f), featureOf(second[0], second[1])) ? 1 : 0;
   }
 
@@ -305,12 +322,12 @@ public final class LandMap {
 
   public int raster(int side, int w, int h) {
     if (side < 1 || side > LONGEST_SIDE || w < 1 || w > SIDE || h < 1 || h > SIDE) return NO_NUMBER;
-    if (laid == null) return NOT_LAID;
+    if (current == null) return NOT_LAID;
     if (rasterCount >= RASTERS) return NO_ROOM;
     Raster made = new Raster(w, h);
     for (int i = 0; i < w; i++) {
       for (int j = 0; j < h; j++) {
-        made.put(i, j, laid.valueAt(origin[0] + side * i, origin[1] + side * j));
+        made.put(i, j, current.valueAt(origin[0] + side * i, origin[1] + side * j));
       }
     }
     return keepRaster(made);
@@ -329,7 +346,10 @@ public final class LandMap {
 
   public int algebra() {
     tray.begin();
-    int answer = workOut();
+    int answer = FAULT;
+    if (formula.parse(tray, rasters, rasterCount)) {
+      answer = rasterCount < RASTERS ? keepRaster(formula.run()) : NO_ROOM;
+    }
     tray.useUp();
     return answer;
   }
@@ -342,7 +362,7 @@ public final class LandMap {
   }
 
   public int strays() {
-    return laid == null ? NOT_LAID : laid.countStrays();
+    return current == null ? NOT_LAID : current.countStrays();
   }
 
   private static boolean isLayer(int layer) {
@@ -361,14 +381,6 @@ public final class LandMap {
     return isLayer(layer) ? layers[layer].get(f) : null;
   }
 
-  private int readInto(int layer) {
-    if (!isLayer(layer)) return NO_NUMBER;
-    if (!draft.parse(tray)) return FAULT;
-    if (!rules.hold(draft)) return BROKEN;
-    if (!hasRoomFor(layers[layer].numbers())) return NO_ROOM;
-    return takeDraft(layer, layers[layer]);
-  }
-
   private boolean hasRoomFor(int numbersBefore) {
     return numbersBefore + draft.features() <= NUMBERS && placesMade + draft.xs.count <= PLACES_FOR_LIFE;
   }
@@ -379,17 +391,14 @@ public final class LandMap {
     return draft.features();
   }
 
-  private int movePlace(int layer, int f, int row, int k) {
-    Feature it = featureOf(layer, f);
-    if (it == null || spots.count != 2) return NO_NUMBER;
-    int index = it.indexOf(row, k);
-    if (index < 0) return NO_NUMBER;
+  private void draftMove(Feature it, int row, int index) {
     draft.copy(it);
     draft.put(index, spots.get(0), spots.get(1));
     int twin = it.ringTwin(row, index);
     if (twin >= 0) draft.put(twin, spots.get(0), spots.get(1));
-    if (!rules.hold(draft)) return BROKEN;
-    if (placesMade + draft.xs.count > PLACES_FOR_LIFE) return NO_ROOM;
+  }
+
+  private int takeMove(int layer, int f) {
     placesMade += draft.xs.count;
     change(layer, layers[layer].with(f, draft.build(0)));
     return 0;
@@ -422,14 +431,14 @@ public final class LandMap {
     return sum;
   }
 
-  // Laid in the spare room, so that what lay() laid stays.
+  /** Lays two features in the spare room, so that what lay() laid stays; below 0 a code. */
   private int layTwo(int layer, int f) {
     Feature one = featureOf(layer, f);
     Feature two = featureOf(second[0], second[1]);
     if (one == null || two == null) return NO_NUMBER;
     Laying land = spareLaying();
     if (!land.build(layerOf(one), layerOf(two))) return NO_ROOM;
-    fillEntries(land);
+    land.faces.build(land);
     return 0;
   }
 
@@ -487,20 +496,14 @@ public final class LandMap {
 
   private long seekRoute() {
     if (spots.count != 4) return NO_NUMBER;
-    if (laid == null) return NOT_LAID;
-    return router.seek(laid, spots);
+    if (current == null) return NOT_LAID;
+    return router.seek(current, spots);
   }
 
   private int keepRaster(Raster made) {
     rasters[rasterCount] = made;
     rasterCount++;
     return rasterCount - 1;
-  }
-
-  private int workOut() {
-    if (!formula.parse(tray, rasters, rasterCount)) return FAULT;
-    if (rasterCount >= RASTERS) return NO_ROOM;
-    return keepRaster(formula.run());
   }
 
   /** Twice the area of the triangle, above 0 if (x, y) lies left of the way from (x1, y1) to (x2, y2). */
@@ -529,28 +532,22 @@ public final class LandMap {
     return need <= row.length ? row : Arrays.copyOf(row, Math.max(need, 2 * row.length));
   }
 
-  /** Sorts the first n keys, in place, as no call may make rows of its own. */
+  /** Sorts the first n keys in place, by a heap: no call may make rows of its own. */
   private static void sort(long[] keys, int n) {
     if (n > keys.length) return;
-    for (int i = n / 2 - 1; i >= 0; i--) sink(keys, i, n);
-    for (int last = n - 1; last > 0; last--) {
-      long top = keys[0];
-      keys[0] = keys[last];
-      keys[last] = top;
-      sink(keys, 0, last);
+    for (int round = n + n / 2; round > 0; round--) {
+      int end = round > n ? n : round - 1;
+      int i = round > n ? round - n - 1 : 0;
+      long key = round > n ? keys[i] : keys[end];
+      if (round <= n) keys[end] = keys[0];
+      for (int child = 2 * i + 1; child < end; child = 2 * i + 1) {
+        if (child + 1 < end && keys[child + 1] > keys[child]) child++;
+        if (keys[child] <= key) break;
+        keys[i] = keys[child];
+        i = child;
+      }
+      keys[i] = key;
     }
-  }
-
-  private static void sink(long[] keys, int start, int n) {
-    int i = start;
-    long key = keys[i];
-    for (int child = 2 * i + 1; child < n; child = 2 * i + 1) {
-      if (child + 1 < n && keys[child + 1] > keys[child]) child++;
-      if (keys[child] <= key) break;
-      keys[i] = keys[child];
-      i = child;
-    }
-    keys[i] = key;
   }
 
   /** A row of ints that grows and is used again. */
@@ -629,12 +626,12 @@ public final class LandMap {
       return at >= 0 && at < length ? text[at] & 255 : -1;
     }
 
-    boolean isBlankNext() {
-      return look() == 32 || look() == 10;
+    static boolean isBlank(int c) {
+      return c == 32 || c == 10;
     }
 
     int skipBlanks() {
-      for (int n = 0; n < length && isBlankNext(); n++) at++;
+      for (int n = 0; n < length && isBlank(look()); n++) at++;
       return look();
     }
 
@@ -648,7 +645,8 @@ public final class LandMap {
       return c >= '0' && c <= '9';
     }
 
-    boolean takeNumber(boolean signed) {
+    boolean takeNumber(int low, int high, boolean signed) {
+      int start = at;
       boolean below = signed && look() == '-';
       if (below) at++;
       int digits = 0;
@@ -661,13 +659,6 @@ public final class LandMap {
       }
       if (digits == 0) return failAt(at);
       number = below ? -sum : sum;
-      return true;
-    }
-
-    boolean takeNumberIn(int low, int high, boolean signed) {
-      skipBlanks();
-      int start = at;
-      if (!takeNumber(signed)) return false;
       return number >= low && number <= high || failAt(start);
     }
   }
@@ -834,11 +825,11 @@ public final class LandMap {
     }
 
     int rowsFrom(int i) {
-      return i < firstRows.count ? firstRows.get(i) : rowStarts.count;
+      return i >= 0 && i < firstRows.count ? firstRows.items[i] : rowStarts.count;
     }
 
     int placesFrom(int row) {
-      return row < rowStarts.count ? rowStarts.get(row) : xs.count;
+      return row >= 0 && row < rowStarts.count ? rowStarts.items[row] : xs.count;
     }
 
     int placesOf(int i) {
@@ -879,7 +870,7 @@ public final class LandMap {
       int c = tray.skipBlanks();
       int value = 0;
       if (c == '-' || Tray.isDigit(c)) {
-        if (!tray.takeNumber(true)) return false;
+        if (!tray.takeNumber(-NINE_DIGITS, NINE_DIGITS, true)) return false;
         value = tray.number;
         if (!tray.take(':')) return false;
         c = tray.skipBlanks();
@@ -888,25 +879,18 @@ public final class LandMap {
       if (kind < 0) return tray.failAt(tray.at);
       tray.at++;
       beginFeature(kind, value);
-      return kind == POINT ? parsePoint(tray) : parseRows(tray);
-    }
-
-    private boolean parsePoint(Tray tray) {
-      beginRow();
-      return tray.take('(') && parsePlace(tray) && tray.take(')');
-    }
-
-    private boolean parseRows(Tray tray) {
       for (int n = 0; n <= tray.length; n++) {
-        if (!parseRow(tray)) return false;
-        if (tray.skipBlanks() != '(') return true;
+        if (!parseRow(tray, kind == POINT)) return false;
+        if (kind == POINT || tray.skipBlanks() != '(') return true;
       }
       return tray.failAt(tray.at);
     }
 
-    private boolean parseRow(Tray tray) {
+    private boolean parseRow(Tray tray, boolean single) {
       beginRow();
-      if (!tray.take('(') || !parsePlace(tray) || !tray.take(',') || !parsePlace(tray)) return false;
+      if (!tray.take('(') || !parsePlace(tray)) return false;
+      if (single) return tray.take(')');
+      if (!tray.take(',') || !parsePlace(tray)) return false;
       for (int n = 0; n <= tray.length && tray.skipBlanks() == ','; n++) {
         tray.at++;
         if (!parsePlace(tray)) return false;
@@ -917,10 +901,11 @@ public final class LandMap {
     private boolean parsePlace(Tray tray) {
       tray.skipBlanks();
       if (placesOf(kinds.count - 1) >= PLACES_IN_ONE) return tray.failAt(tray.at);
-      if (!tray.takeNumberIn(-BOUND, BOUND, true)) return false;
+      if (!tray.takeNumber(-BOUND, BOUND, true)) return false;
       int x = tray.number;
-      if (tray.look() != '-' && !tray.isBlankNext()) return tray.failAt(tray.at);
-      if (!tray.takeNumberIn(-BOUND, BOUND, true)) return false;
+      if (tray.look() != '-' && !Tray.isBlank(tray.look())) return tray.failAt(tray.at);
+      tray.skipBlanks();
+      if (!tray.takeNumber(-BOUND, BOUND, true)) return false;
       addPlace(x, tray.number);
       return true;
     }
@@ -949,31 +934,26 @@ public final class LandMap {
       brokenFeature = -1;
     }
 
+    /** Whether every feature keeps the rules; else the first one that does not is told. */
     boolean hold(Draft features) {
       draft = features;
       xs = features.xs.items;
       ys = features.ys.items;
       for (int i = 0; i < features.features(); i++) {
-        brokenRule = firstBroken(i);
+        int from = features.rowsFrom(i);
+        int to = features.rowsFrom(i + 1);
+        boolean area = features.kinds.get(i) == AREA;
+        if (area && !areClosed(from, to)) brokenRule = 1;
+        else if (hasRepeat(from, to)) brokenRule = 2;
+        else if (area) brokenRule = meetings(from, to);
+        if (area && brokenRule == 0 && !holesLieInside(from, to)) brokenRule = 5;
+        if (area && brokenRule == 0 && !isOneWhole(from, to)) brokenRule = 6;
         if (brokenRule > 0) {
           brokenFeature = i;
           return false;
         }
       }
       return true;
-    }
-
-    private int firstBroken(int i) {
-      int from = draft.rowsFrom(i);
-      int to = draft.rowsFrom(i + 1);
-      boolean area = draft.kinds.get(i) == AREA;
-      if (area && !areClosed(from, to)) return 1;
-      if (hasRepeat(from, to)) return 2;
-      if (!area) return 0;
-      int broken = meetings(from, to);
-      if (broken > 0) return broken;
-      if (!holesLieInside(from, to)) return 5;
-      return isOneWhole(from, to) ? 0 : 6;
     }
 
     private int first(int row) {
@@ -1126,7 +1106,8 @@ public final class LandMap {
     }
 
     private boolean isOn(int p, int q) {
-      return isBetween(xs[p], xs[q], xs[p + 1]) && isBetween(ys[p], ys[q], ys[p + 1]) && turn(p, q) == 0;
+      return isBetween(xs[p], xs[q], xs[p + 1]) && isBetween(ys[p], ys[q], ys[p + 1])
+          && side(xs[p], ys[p], xs[p + 1], ys[p + 1], xs[q], ys[q]) == 0;
     }
 
     private boolean isMiddleInside(int a, int b, int ring) {
@@ -1223,12 +1204,12 @@ public final class LandMap {
     }
 
     int degree(int n) {
-      return fanStarts.get(n + 1) - fanStarts.get(n);
+      return fanStarts.items[n + 1] - fanStarts.items[n];
     }
 
     /** The node from which way w goes: ways 2p and 2p + 1 go along piece p, the first from its lesser node. */
     int tail(int w) {
-      return (w & 1) == 0 ? from.get(w >> 1) : to.get(w >> 1);
+      return (w & 1) == 0 ? from.items[w >> 1] : to.items[w >> 1];
     }
 
     long[] keysFor(int n) {
@@ -1236,14 +1217,17 @@ public final class LandMap {
       return keys;
     }
 
-    /** Lays two layers; false if there is no room. */
+    /** Lays two layers, but for the faces; false if there is no room. */
     boolean build(Layer a, Layer b) {
       first = a;
       second = b;
-      if (!gatherEdges() || !gatherHot() || !bendEdges() || !gatherPieces()) return false;
+      if (!gatherEdges()) return false;
+      orderEdges();
+      if (!addPlaces() || !addCrossings() || !squeezeHot()) return false;
+      numberNodes();
+      if (!bendEdges() || !gatherPieces()) return false;
       countGoing();
       spreadFans();
-      faces.build(this);
       return true;
     }
 
@@ -1290,40 +1274,38 @@ public final class LandMap {
     }
 
     private int x1(int e) {
-      return edges.get(4 * e);
+      return edges.items[4 * e];
     }
 
     private int y1(int e) {
-      return edges.get(4 * e + 1);
+      return edges.items[4 * e + 1];
     }
 
     private int x2(int e) {
-      return edges.get(4 * e + 2);
+      return edges.items[4 * e + 2];
     }
 
     private int y2(int e) {
-      return edges.get(4 * e + 3);
+      return edges.items[4 * e + 3];
     }
 
-    private boolean gatherHot() {
-      orderEdges();
+    private boolean addPlaces() {
       keyCount = 0;
       for (int s = 0; s < slots(); s++) {
         Feature it = inSlot(s);
-        for (int i = 0; it != null && i < it.places(); i++) {
-          if (!addHot(it.xs[i], it.ys[i])) return false;
-        }
+        for (int i = 0; it != null && i < it.places(); i++) addHot(it.xs[i], it.ys[i]);
+        if (keyCount >= HOT_BUFFER && !squeezeHot()) return false;
       }
-      if (!addCrossings()) return false;
-      squeezeHot();
-      if (keyCount > HOTS) return false;
+      return true;
+    }
+
+    private void numberNodes() {
       nodeX.clear();
       nodeY.clear();
       for (int i = 0; i < keyCount; i++) {
         nodeX.add((int) (keys[i] >> 20) - BOUND);
         nodeY.add((int) (keys[i] & 0xFFFFF) - BOUND);
       }
-      return true;
     }
 
     private void orderEdges() {
@@ -1335,18 +1317,14 @@ public final class LandMap {
       for (int i = 0; i < n; i++) order.add((int) (keys[i] & 0xFFFFF));
     }
 
-    private boolean addHot(int x, int y) {
-      if (keyCount >= HOT_BUFFER) {
-        squeezeHot();
-        if (keyCount > HOTS) return false;
-      }
-      keysFor(keyCount + 1);
+    private void addHot(int x, int y) {
+      keys = withRoom(keys, keyCount + 1);
       keys[keyCount] = ((long) (x + BOUND) << 20) | (y + BOUND);
       keyCount++;
-      return true;
     }
 
-    private void squeezeHot() {
+    /** Leaves each hot place once, in their order; false if there are too many. */
+    private boolean squeezeHot() {
       sort(keys, keyCount);
       int kept = 0;
       for (int i = 0; i < keyCount; i++) {
@@ -1355,6 +1333,7 @@ public final class LandMap {
         kept++;
       }
       keyCount = kept;
+      return kept <= HOTS;
     }
 
     private boolean addCrossings() {
@@ -1362,29 +1341,30 @@ public final class LandMap {
         int e = order.get(i);
         int right = x2(e);
         for (int j = i + 1; j < order.count && x1(order.get(j)) <= right; j++) {
-          if (!addCrossing(e, order.get(j))) return false;
+          addCrossing(e, order.get(j));
+          if (keyCount >= HOT_BUFFER && !squeezeHot()) return false;
         }
       }
       return true;
     }
 
     // Edges that touch have a corner there, which is hot already.
-    private boolean addCrossing(int e, int f) {
-      if (Math.max(y1(e), y2(e)) < Math.min(y1(f), y2(f))) return true;
-      if (Math.max(y1(f), y2(f)) < Math.min(y1(e), y2(e))) return true;
-      if (!isSplitBy(e, f) || !isSplitBy(f, e)) return true;
+    private void addCrossing(int e, int f) {
+      if (Math.max(y1(e), y2(e)) < Math.min(y1(f), y2(f))) return;
+      if (Math.max(y1(f), y2(f)) < Math.min(y1(e), y2(e))) return;
+      if (!isSplitBy(e, f) || !isSplitBy(f, e)) return;
       long dx = (long) x2(e) - x1(e);
       long dy = (long) y2(e) - y1(e);
       long ex = (long) x2(f) - x1(f);
       long ey = (long) y2(f) - y1(f);
       long below = dx * ey - dy * ex;
       long above = ((long) x1(f) - x1(e)) * ey - ((long) y1(f) - y1(e)) * ex;
-      if (below == 0) return true;
+      if (below == 0) return;
       if (below < 0) {
         below = -below;
         above = -above;
       }
-      return addHot(x1(e) + rounded(dx * above, below), y1(e) + rounded(dy * above, below));
+      addHot(x1(e) + rounded(dx * above, below), y1(e) + rounded(dy * above, below));
     }
 
     private boolean isSplitBy(int e, int f) {
@@ -1594,12 +1574,16 @@ public final class LandMap {
       return one != two ? one > two : dy * ex < ey * dx;
     }
 
+    /** The face around a place that is on no piece. */
+    int faceAround(int x, int y) {
+      int below = pieceBelow(x, y);
+      return below < 0 ? 0 : faces.wayFace.get(2 * below);
+    }
+
     /** The face in which a place lies, or -1 less the piece on which it lies. */
     int find(int x, int y) {
       int on = pieceOn(x, y);
-      if (on >= 0) return -1 - on;
-      int below = pieceBelow(x, y);
-      return below < 0 ? 0 : faces.wayFace.get(2 * below);
+      return on >= 0 ? -1 - on : faceAround(x, y);
     }
 
     long valueAt(int x, int y) {
@@ -1677,7 +1661,12 @@ public final class LandMap {
 
     void build(Laying of) {
       land = of;
-      traceCycles();
+      int bound = 2 * land.pieces();
+      cycleOf.fill(bound, -1);
+      cycleKeys.clear();
+      for (int w = 0; w < bound; w++) {
+        if (cycleOf.get(w) < 0) trace(w, bound);
+      }
       numberFaces();
       tally();
       growTree();
@@ -1686,15 +1675,6 @@ public final class LandMap {
 
     long area2Of(int f) {
       return f >= 0 && f < count ? areas[f] : 0;
-    }
-
-    private void traceCycles() {
-      int bound = 2 * land.pieces();
-      cycleOf.fill(bound, -1);
-      cycleKeys.clear();
-      for (int w = 0; w < bound; w++) {
-        if (cycleOf.get(w) < 0) trace(w, bound);
-      }
     }
 
     private void trace(int start, int bound) {
@@ -1861,7 +1841,7 @@ public final class LandMap {
         part = Math.min(part, next);
       }
       // No piece tells of a lone node: the face around it does.
-      if (land.degree(n) == 0) return partOfFace(side, Math.max(0, land.find(x, y)));
+      if (land.degree(n) == 0) return partOfFace(side, land.faceAround(x, y));
       return part;
     }
   }
@@ -2417,7 +2397,7 @@ public final class LandMap {
       }
       if (c == '(') return goDeeper(depth) && readChoice(depth + 1) && tray.take(')');
       if (isLetter(c)) return readWord(depth);
-      if (!tray.takeNumber(false)) return false;
+      if (!tray.takeNumber(0, NINE_DIGITS, false)) return false;
       write(NUMBER, tray.number, 0);
       return true;
     }
@@ -2484,7 +2464,9 @@ public final class LandMap {
     }
 
     private boolean readNumber(int low, int high, boolean signed) {
-      return tray.take(',') && tray.takeNumberIn(low, high, signed);
+      if (!tray.take(',')) return false;
+      tray.skipBlanks();
+      return tray.takeNumber(low, high, signed);
     }
 
     /** The raster of the text that was parsed last, without a fault. */
