@@ -1204,12 +1204,12 @@ public final class LandMap {
     }
 
     int degree(int n) {
-      return fanStarts.items[n + 1] - fanStarts.items[n];
+      return fanStarts.get(n + 1) - fanStarts.get(n);
     }
 
     /** The node from which way w goes: ways 2p and 2p + 1 go along piece p, the first from its lesser node. */
     int tail(int w) {
-      return (w & 1) == 0 ? from.items[w >> 1] : to.items[w >> 1];
+      return (w & 1) == 0 ? from.get(w >> 1) : to.get(w >> 1);
     }
 
     long[] keysFor(int n) {
@@ -1274,19 +1274,19 @@ public final class LandMap {
     }
 
     private int x1(int e) {
-      return edges.items[4 * e];
+      return edges.get(4 * e);
     }
 
     private int y1(int e) {
-      return edges.items[4 * e + 1];
+      return edges.get(4 * e + 1);
     }
 
     private int x2(int e) {
-      return edges.items[4 * e + 2];
+      return edges.get(4 * e + 2);
     }
 
     private int y2(int e) {
-      return edges.items[4 * e + 3];
+      return edges.get(4 * e + 3);
     }
 
     private boolean addPlaces() {

@@ -19,7 +19,7 @@ public final class AlgebraTest {
         String text = part.text;
         Integer[] want = part.cells;
         if (random.nextInt(3) == 0) {
-          text = spoil(random, text);
+          text = Feeder.spoil(random, text, BYTES, 1 + random.nextInt(2));
           want = null;
         }
         check(map, known, text, want);
@@ -218,21 +218,6 @@ public final class AlgebraTest {
     String inner = "(" + as(random, x, 0) + "," + gap(random);
     if (kind == 3) return new Part("at" + inner + dx + gap(random) + "," + gap(random) + dy + ")", 4, cells);
     return new Part((kind == 0 ? "sum" : kind == 1 ? "top" : "low") + gap(random) + inner + k + gap(random) + ")", 4, cells);
-  }
-
-  private static String spoil(Random random, String text) {
-    StringBuilder out = new StringBuilder(text);
-    int many = 1 + random.nextInt(2);
-    for (int i = 0; i < many && out.length() > 0; i++) {
-      int at = random.nextInt(out.length());
-      char c = BYTES.charAt(random.nextInt(BYTES.length()));
-      int how = random.nextInt(4);
-      if (how == 0) out.deleteCharAt(at);
-      else if (how == 1) out.insert(at, c);
-      else if (how == 2) out.setCharAt(at, c);
-      else out.setLength(at);
-    }
-    return out.toString();
   }
 
   /** What a formula has open: 'e' the text, '(' brackets, '1' '2' 'k' 'd' calls, 't' behind ?, 'n' behind :. */

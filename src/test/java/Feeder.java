@@ -1,5 +1,6 @@
 import java.util.ArrayList;
 import java.util.List;
+import java.util.Random;
 
 /** What the tests share: feeding texts, counting wrong answers, small random shapes. */
 final class Feeder {
@@ -63,6 +64,21 @@ final class Feeder {
   static int bar(LandMap map, int... places) {
     for (int i = 0; i + 1 < places.length; i += 2) map.spot(places[i], places[i + 1]);
     return map.bar();
+  }
+
+  /** A text with some bytes changed, put in or left out, or its end cut off. */
+  static String spoil(Random random, String text, String bytes, int many) {
+    StringBuilder out = new StringBuilder(text);
+    for (int i = 0; i < many && out.length() > 0; i++) {
+      int at = random.nextInt(out.length());
+      char c = bytes.charAt(random.nextInt(bytes.length()));
+      int how = random.nextInt(4);
+      if (how == 0) out.deleteCharAt(at);
+      else if (how == 1) out.insert(at, c);
+      else if (how == 2) out.setCharAt(at, c);
+      else out.setLength(at);
+    }
+    return out.toString();
   }
 
   /** A feature as the tests hold it: kind, value, and rows of places. */

@@ -12,7 +12,7 @@ public final class TextTest {
     int faults = 0;
     for (int round = 0; round < rounds; round++) {
       Random random = new Random(seed * 104729 + round);
-      String text = spoil(random, valid(random));
+      String text = Feeder.spoil(random, valid(random), BYTES, random.nextInt(3));
       int want = fault(text);
       faults += want >= 0 ? 1 : 0;
       LandMap map = new LandMap();
@@ -67,21 +67,6 @@ public final class TextTest {
         out.append(')');
       }
       out.append(blanks(random));
-    }
-    return out.toString();
-  }
-
-  private static String spoil(Random random, String text) {
-    StringBuilder out = new StringBuilder(text);
-    int many = random.nextInt(3);
-    for (int i = 0; i < many && out.length() > 0; i++) {
-      int at = random.nextInt(out.length());
-      char c = BYTES.charAt(random.nextInt(BYTES.length()));
-      int how = random.nextInt(4);
-      if (how == 0) out.deleteCharAt(at);
-      else if (how == 1) out.insert(at, c);
-      else if (how == 2) out.setCharAt(at, c);
-      else out.setLength(at);
     }
     return out.toString();
   }
