@@ -4,7 +4,7 @@ import java.util.Random;
 
 /** Promises 34 to 37: random formulas over random rasters, places of faults, depths, and spreading. */
 public final class AlgebraTest {
-  private static final String BYTES = "abcdefjk()?:,+-*/%<>=#  \n0123456789minaxorbslkutpw.A";
+  private static final String BYTES = "abcdefjk()?:,+-*/%<>=#  \n0123456789minaxorbslkutpw.A\u0000\u00ff";
   private static final int CELLS = 5 * 4;
 
   public static void main(String[] args) {
