@@ -7,7 +7,9 @@ public final class LimitsTest {
     placesInOne();
     placesForLife();
     hotPlaces();
+    justEnough();
     overlays();
+    overlayOfMany();
     room();
     Feeder.finish("LimitsTest");
   }
@@ -112,6 +114,78 @@ public final class LimitsTest {
     Feeder.due("how often", steps.piece(0, 4), 1998);
     Feeder.read(steps, 1, "P(10 0)");
     Feeder.due("1998 times 11 steps", steps.lay(0, 1), -12);
+  }
+
+  private static String zigzag(int start, int places, int y) {
+    StringBuilder text = new StringBuilder();
+    for (int i = 0; i < places; i++) {
+      text.append(i == 0 ? "" : ",").append(start - i).append(' ').append(y + 3 * (i % 2));
+    }
+    return text.toString();
+  }
+
+  private static void justEnough() {
+    LandMap hot = new LandMap();
+    for (int n = 0; n < 3; n++) Feeder.read(hot, 0, "L(" + zigzag(999, 2000, 10 * n) + ")");
+    Feeder.due("6000 hot places", hot.lay(0, -1), 3 * 1999);
+    Feeder.due("6000 hot places", hot.laid(3), 6000);
+    Feeder.read(hot, 0, "P(0 50)");
+    Feeder.due("6001 hot places", hot.lay(0, -1), -12);
+    LandMap pieces = new LandMap();
+    grid(pieces, 66, 67);
+    Feeder.read(pieces, 0, "L(" + zigzag(-100, 24, 0) + ")");
+    Feeder.due("9000 pieces", pieces.lay(0, 1), 9000);
+    Feeder.read(pieces, 0, "L(-500 0,-501 5)");
+    Feeder.due("9001 pieces", pieces.lay(0, 1), -12);
+    LandMap steps = new LandMap();
+    Feeder.read(steps, 0, "L(0 0" + ",1 0,0 0".repeat(999) + ")");
+    for (int n = 0; n < 4; n++) Feeder.read(steps, 0, "L(0 0" + ",1 0,0 0".repeat(999) + ")");
+    Feeder.read(steps, 1, "L(0 0,1 0" + ",0 0,1 0".repeat(999) + ")");
+    Feeder.read(steps, 1, "L(0 0,1 0" + ",0 0,1 0".repeat(999) + ")");
+    Feeder.due("13988 steps", steps.lay(0, 1), 1);
+    Feeder.due("of a", steps.piece(0, 4), 5 * 1998);
+    Feeder.due("of b", steps.piece(0, 5), 2 * 1999);
+    LandMap many = new LandMap();
+    Feeder.read(many, 0, "L(0 0" + ",10 0,0 0".repeat(999) + ")L(" + zigzag(-50, 21, 0) + ")");
+    StringBuilder points = new StringBuilder();
+    for (int i = 1; i <= 9; i++) points.append("P(").append(i).append(" 0)");
+    Feeder.read(many, 1, points.toString());
+    Feeder.due("20000 steps", many.lay(0, 1), 30);
+    Feeder.read(many, 1, "L(-90 0,-91 5)");
+    Feeder.due("20001 steps", many.lay(0, 1), -12);
+  }
+
+  /** A comb of so many places with a hole of four cut out by an overlay. */
+  private static int overlayOf(int places) {
+    LandMap map = new LandMap();
+    Feeder.read(map, 0, "A(1000 0," + zigzag(1000, places - 3, 10) + ",-1100 0,1000 0)");
+    Feeder.due("places", map.feature(0, 0, 3), places);
+    Feeder.read(map, 1, "A(5 2,9 2,5 6,5 2)");
+    map.lay(0, 1);
+    return map.overlay(2, 2, false);
+  }
+
+  private static String triangles(int many, int y) {
+    StringBuilder text = new StringBuilder();
+    for (int i = 0; i < many; i++) {
+      String start = 5 * i + " " + y;
+      text.append("A(").append(start).append(',').append(5 * i + 3).append(' ').append(y).append(',');
+      text.append(5 * i).append(' ').append(y + 3).append(',').append(start).append(')');
+    }
+    return text.toString();
+  }
+
+  private static void overlayOfMany() {
+    Feeder.due("2000 places", overlayOf(1996), 1);
+    Feeder.due("2001 places", overlayOf(1997), -12);
+    LandMap map = new LandMap();
+    Feeder.read(map, 0, triangles(100, 0));
+    Feeder.read(map, 1, triangles(100, 9));
+    map.lay(0, 1);
+    Feeder.due("200 features", map.overlay(2, 0, false), 200);
+    Feeder.read(map, 1, "A(0 20,1 20,0 21,0 20)");
+    map.lay(0, 1);
+    Feeder.due("201 features", map.overlay(3, 0, false), -12);
   }
 
   private static void overlays() {
