@@ -13,7 +13,8 @@ final class Feeder {
     asked++;
     if (got == want) return;
     wrong++;
-    if (wrong <= 50) System.out.println(call + " answered " + got + ", due is " + want);
+    String name = call.length() > 300 ? call.substring(0, 300) + ".." : call;
+    if (wrong <= 50) System.out.println(name + " answered " + got + ", due is " + want);
   }
 
   static void due(String call, boolean got, boolean want) {
