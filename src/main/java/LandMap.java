@@ -1611,6 +1611,8 @@ public final class LandMap {
       int b = to.get(p);
       int c = from.get(q);
       int d = to.get(q);
+      if (Math.max(nodeY.get(a), nodeY.get(b)) < Math.min(nodeY.get(c), nodeY.get(d))) return false;
+      if (Math.max(nodeY.get(c), nodeY.get(d)) < Math.min(nodeY.get(a), nodeY.get(b))) return false;
       if (isInner(p, c) || isInner(p, d) || isInner(q, a) || isInner(q, b)) return true;
       long one = sideOf(p, nodeX.get(c), nodeY.get(c));
       long two = sideOf(p, nodeX.get(d), nodeY.get(d));
@@ -1624,15 +1626,14 @@ public final class LandMap {
     }
 
     private int strayNodes() {
-      int sum = 0;
-      for (int n = 0; n < nodes(); n++) {
-        boolean stray = false;
-        for (int p = 0; p < pieces() && !stray && nodeX.get(from.get(p)) <= nodeX.get(n); p++) {
-          stray = isInner(p, n);
+      path.fill(nodes(), 0);
+      for (int p = 0; p < pieces(); p++) {
+        int right = nodeX.get(to.get(p));
+        for (int n = firstNodeFrom(nodeX.get(from.get(p))); n < nodes() && nodeX.get(n) <= right; n++) {
+          if (isInner(p, n)) path.set(n, 1);
         }
-        if (stray) sum++;
       }
-      return sum;
+      return aboveNothing(path);
     }
   }
 
@@ -2242,43 +2243,39 @@ public final class LandMap {
       return cells[c] < 0 || cells[c] > 1000;
     }
 
-    /** SPREAD over these costs. */
+    /** SPREAD over these costs: sums sink, cell by cell forth and back, until none does. */
     Raster spreadFrom(Raster seeds) {
       Raster sums = new Raster(width, height);
-      boolean[] done = new boolean[cells.length];
       for (int c = 0; c < cells.length && c < seeds.cells.length; c++) {
         if (seeds.cells[c] != BLANK && !isBarred(c)) sums.cells[c] = 0;
       }
-      for (int k = 0; k < cells.length; k++) {
-        int c = sums.leastOpen(done);
-        if (c < 0) break;
-        done[c] = true;
-        stepFrom(c, sums);
+      boolean sinks = true;
+      for (int round = 0; round <= cells.length && sinks; round++) {
+        sinks = false;
+        for (int c = 0; c < cells.length; c++) sinks = stepFrom(c, sums) || sinks;
+        for (int c = cells.length - 1; c >= 0; c--) sinks = stepFrom(c, sums) || sinks;
       }
       return sums;
     }
 
-    private int leastOpen(boolean[] done) {
-      int best = -1;
-      for (int c = 0; c < cells.length && c < done.length; c++) {
-        if (!done[c] && cells[c] != BLANK && (best < 0 || cells[c] < cells[best])) best = c;
-      }
-      return best;
-    }
-
-    private void stepFrom(int c, Raster sums) {
-      if (width <= 0) return;
+    /** Whether a step from a cell leads to a lesser sum somewhere. */
+    private boolean stepFrom(int c, Raster sums) {
+      if (width <= 0 || sums.cells[c] == BLANK) return false;
       int i = c % width;
       int j = c / width;
+      boolean sinks = false;
       for (int dx = -1; dx <= 1; dx++) {
         for (int dy = -1; dy <= 1; dy++) {
           if (look(i + dx, j + dy) == NO_CELL) continue;
           int next = (j + dy) * width + i + dx;
           if (isBarred(next)) continue;
           long sum = sums.cells[c] + (cells[c] + cells[next]) * (dx != 0 && dy != 0 ? 7 : 5);
-          if (sum < sums.cells[next]) sums.cells[next] = sum;
+          if (sum >= sums.cells[next]) continue;
+          sums.cells[next] = sum;
+          sinks = true;
         }
       }
+      return sinks;
     }
   }
 

@@ -287,6 +287,17 @@ public final class LayingBoundsTest {
       Feeder.due("area of " + f, map.faceArea2(f), areas[f]);
       Feeder.due("place in " + f, map.locate(where[f][0], where[f][1]), f);
     }
+    // What lies straight above piece 0 lies in the face to its left.
+    LandMap above = laid("A(0 0,10-5,12 20,0 0)", "A(8 0,9 0,9 1,8 0)P(8 2)");
+    Feeder.due("piece 0 goes to (10, -5)", above.node(above.piece(0, 1), 1), -5);
+    Feeder.due("rings of the triangle", above.face(1, 0), 2);
+    Feeder.due("rings of the outside", above.face(0, 0), 1);
+    Feeder.due("in the triangle", above.locate(8, -1), 1);
+    Feeder.due("its area", above.faceArea2(1), above.area2(0, 0) - 1);
+    // Two pieces go to the right from the place below: neither is below what lies above it.
+    LandMap beside = laid("A(0 0,5-9,10 0,0 0)", "L(2 3,6 4)L(2 3,6 8)A(20 0,30 0,30 9,20 0)A(20 0,30 12,30 20,20 0)");
+    Feeder.due("above a fork", beside.locate(2, 9), 0);
+    Feeder.due("above two corners", beside.locate(20, 5), 0);
     // Two that touch at a corner: the outside goes round both in one ring.
     LandMap touch = laid("A(0 0,4 0,4 4,0 0)A(4 4,8 4,8 8,4 4)", "");
     Feeder.due("one ring", touch.face(0, 0), 1);

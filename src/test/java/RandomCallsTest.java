@@ -19,8 +19,55 @@ public final class RandomCallsTest {
         long again = call(twin, new Random(state), reach);
         Feeder.due("the same call again", again, got);
       }
+      usedAndFresh(map, random);
     }
     Feeder.finish("RandomCallsTest");
+  }
+
+  /** A map with a long past answers as a new one with the same features does. */
+  private static void usedAndFresh(LandMap used, Random random) {
+    LandMap fresh = new LandMap();
+    for (int layer = 0; layer < 5; layer++) copy(used, fresh, layer);
+    for (int n = 0; n < 3; n++) {
+      int a = random.nextInt(5);
+      int b = random.nextInt(6) - 1;
+      Feeder.due("lay", used.lay(a, b), fresh.lay(a, b));
+      boolean same = landOf(used).equals(landOf(fresh));
+      Feeder.due("what is laid by a used map", same, true);
+      for (int k = 0; k < 4; k++) {
+        boolean split = random.nextBoolean();
+        Feeder.due("overlay", used.overlay(7, k, split), fresh.overlay(7, k, split));
+        Feeder.due("its features", layersOf(used).equals(layersOf(fresh)), true);
+      }
+      used.other(b, 0);
+      fresh.other(b, 0);
+      if (used.size(b, 1) > 0 && used.feature(b, 0, 0) >= 0) {
+        for (int i = 0; i < 9; i++) Feeder.due("relate", used.relate(a, 0, i / 3, i % 3), fresh.relate(a, 0, i / 3, i % 3));
+      }
+    }
+  }
+
+  private static void copy(LandMap used, LandMap fresh, int layer) {
+    for (int f = 0; f < used.size(layer, 0); f++) {
+      Feeder.Shape shape = Feeder.shapeOf(used, layer, f);
+      int value = shape == null ? 0 : shape.value;
+      if (shape != null) shape.value = 0;
+      Feeder.due("read again", Feeder.read(fresh, layer, shape == null ? "P(0 0)" : shape.text()), 1);
+      if (shape == null) fresh.drop(layer, f);
+      else fresh.revalue(layer, f, value);
+    }
+  }
+
+  private static String landOf(LandMap map) {
+    StringBuilder out = new StringBuilder();
+    Twins.land(out, map);
+    return out.toString();
+  }
+
+  private static String layersOf(LandMap map) {
+    StringBuilder out = new StringBuilder();
+    for (int f = 0; f < map.size(7, 0); f++) out.append(Feeder.shapeOf(map, 7, f).text());
+    return out.toString();
   }
 
   private static int n(Random random, int bound) {

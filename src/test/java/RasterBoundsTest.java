@@ -420,6 +420,8 @@ public final class RasterBoundsTest {
     fault("sum(".repeat(40) + "d" + ",0)".repeat(40), 39 * 4 + 3);
     worth("at(".repeat(39) + "d" + ",0,0)".repeat(39), 7);
     fault("at(".repeat(40) + "d" + ",0,0)".repeat(40), 39 * 3 + 2);
+    worth("1<1+1*min(1,".repeat(39) + "1<1+1*d" + ")".repeat(39), 1);
+    worth("1<1+1*min(d,".repeat(39) + "1<1+1*d" + ")".repeat(39), 1);
     // A minus between two, signs and comparing go no deeper.
     worth("d" + "-0".repeat(100), 7);
     worth("(".repeat(39) + "1-1+d*1/1<9" + ")".repeat(39), 1);
@@ -442,6 +444,10 @@ public final class RasterBoundsTest {
     fault("k", 0);
     fault("d+z", 2);
     fault("dd", 0);
+    fault("dz", 0);
+    fault("zd", 0);
+    fault("az(d)", 0);
+    fault("minz(d,d)", 0);
     fault("d+ab", 2);
     fault("d d", 2);
     fault("d(1)", 1);

@@ -108,8 +108,8 @@ public final class RoadBoundsTest {
       due(map, x + " 0");
       Feeder.due("that node alone", map.routeNode(1), -1);
     }
-    Feeder.bar(map, 0, 0, 0, 0, 0, 0);
-    Feeder.bar(map, 0, 0, 4, 0, 0, 0);
+    Feeder.due("three times one place", Feeder.bar(map, 0, 0, 0, 0, 0, 0), 1);
+    Feeder.due("there and back", Feeder.bar(map, 0, 0, 4, 0, 0, 0), 2);
     Feeder.due("with bars too", Feeder.route(map, 0, 0, 0, 0), 0);
     Feeder.due("there", Feeder.route(map, 0, 0, 4, 0), 20);
   }
@@ -173,6 +173,12 @@ public final class RoadBoundsTest {
     Feeder.due("two roads with a barred turn", Feeder.route(later, 0, 0, 20, 0), -3);
     later.lay(0, -1);
     Feeder.due("one road again", Feeder.route(later, 0, 0, 20, 0), 20);
+    // Places are barred, not the numbers of nodes.
+    Feeder.read(later, 2, "1:L(100 0,110 0,120 0)");
+    later.lay(0, 1);
+    Feeder.due("barred", Feeder.route(later, 0, 0, 20, 0), -3);
+    later.lay(2, -1);
+    Feeder.due("other places", Feeder.route(later, 100, 0, 120, 0), 20);
   }
 
   private static void hundredBars() {

@@ -15,6 +15,7 @@ public final class RouteTest {
     int found = 0;
     for (int round = 0; round < rounds; round++) found += travel(new Random(seed * 32452843 + round));
     Feeder.due("ways found", found > rounds, true);
+    for (int round = 0; round < rounds / 15; round++) travelWide(new Random(seed * 49979693 + round));
     Feeder.finish("RouteTest");
   }
 
@@ -40,6 +41,55 @@ public final class RouteTest {
       found += check(random, map, plane, weights(plane), bars);
     }
     return found;
+  }
+
+  /** A grid of 8 by 8 nodes, each road with a value of its own, and many bars. */
+  private static void travelWide(Random random) {
+    StringBuilder text = new StringBuilder();
+    List<int[]> nodes = new ArrayList<>();
+    List<int[]> pieces = new ArrayList<>();
+    int most = 1 + random.nextInt(12);
+    for (int n = 0; n < 64; n++) {
+      nodes.add(new int[] {10 * (n / 8), 10 * (n % 8)});
+      if (n % 8 < 7) pieces.add(new int[] {n, n + 1});
+      if (n / 8 < 7) pieces.add(new int[] {n, n + 8});
+    }
+    int[] weights = new int[pieces.size()];
+    for (int p = 0; p < weights.length; p++) {
+      weights[p] = random.nextInt(most + 1);
+      int[] u = nodes.get(pieces.get(p)[0]);
+      int[] v = nodes.get(pieces.get(p)[1]);
+      text.append(weights[p]).append(":L(").append(u[0]).append(' ').append(u[1]).append(',').append(v[0]).append(' ');
+      text.append(v[1]).append(')');
+    }
+    LandMap map = new LandMap();
+    Feeder.due("roads", Feeder.read(map, 0, text.toString()), weights.length);
+    Feeder.due("pieces", map.lay(0, -1), weights.length);
+    Set<String> bars = new HashSet<>();
+    for (int n = 0; n < 60; n++) {
+      int[] turn = {0, random.nextInt(64), 0};
+      for (int k = 0; k < 3; k += 2) {
+        int[] p = pieces.get(random.nextInt(weights.length));
+        while (p[0] != turn[1] && p[1] != turn[1]) p = pieces.get(random.nextInt(weights.length));
+        turn[k] = p[0] + p[1] - turn[1];
+      }
+      bars.add(turn[0] + " " + turn[1] + " " + turn[2]);
+      int[] a = nodes.get(turn[0]);
+      int[] b = nodes.get(turn[1]);
+      int[] c = nodes.get(turn[2]);
+      Feeder.due("bar", Feeder.bar(map, a[0], a[1], b[0], b[1], c[0], c[1]), bars.size());
+    }
+    for (int n = 0; n < 12; n++) {
+      int start = random.nextInt(64);
+      int goal = random.nextInt(64);
+      Way best = best(nodes, pieces, weights, bars, start, goal);
+      int[] a = nodes.get(start);
+      int[] b = nodes.get(goal);
+      Feeder.due("wide", Feeder.route(map, a[0], a[1], b[0], b[1]), best == null ? -3 : best.cost);
+      for (int k = 0; best != null && k < best.nodes.size(); k++) {
+        Feeder.due("wide, node " + k, map.routeNode(k), best.nodes.get(k));
+      }
+    }
   }
 
   private static void barOne(Random random, LandMap map, Plane plane, Set<String> bars) {
@@ -100,7 +150,7 @@ public final class RouteTest {
       Feeder.due(name, map.routeNode(0), -1);
       return 0;
     }
-    Way best = best(plane, weights, bars, start, goal);
+    Way best = best(plane.nodes, plane.pieces, weights, bars, start, goal);
     Feeder.due(name, got, best == null ? -3 : best.cost);
     List<Integer> nodes = best == null ? Collections.emptyList() : best.nodes;
     for (int k = 0; k < nodes.size(); k++) Feeder.due(name + " node " + k, map.routeNode(k), nodes.get(k));
@@ -115,7 +165,7 @@ public final class RouteTest {
     return false;
   }
 
-  private static Way best(Plane plane, int[] weights, Set<String> bars, int start, int goal) {
+  private static Way best(List<int[]> nodes, List<int[]> pieces, int[] weights, Set<String> bars, int start, int goal) {
     PriorityQueue<Way> queue = new PriorityQueue<>();
     Set<String> done = new HashSet<>();
     Way first = new Way();
@@ -129,13 +179,13 @@ public final class RouteTest {
       int before = size > 1 ? way.nodes.get(size - 2) : -1;
       if (!done.add(before + " " + at)) continue;
       for (int p = 0; p < weights.length; p++) {
-        int[] piece = plane.pieces.get(p);
+        int[] piece = pieces.get(p);
         if (weights[p] < 1 || weights[p] == Integer.MAX_VALUE || piece[0] != at && piece[1] != at) continue;
         int next = piece[0] + piece[1] - at;
         if (bars.contains(before + " " + at + " " + next)) continue;
         Way longer = new Way();
-        int[] u = plane.nodes.get(at);
-        int[] v = plane.nodes.get(next);
+        int[] u = nodes.get(at);
+        int[] v = nodes.get(next);
         long square = (long) (u[0] - v[0]) * (u[0] - v[0]) + (long) (u[1] - v[1]) * (u[1] - v[1]);
         longer.cost = way.cost + (long) Math.floor(Math.sqrt(square)) * weights[p];
         longer.nodes.addAll(way.nodes);

@@ -309,6 +309,7 @@ public final class TextBoundsTest {
   private static void ruleThree() {
     rule("A(0 0,4 0,2 0,0 0)", 3);
     rule("A(0 0,2 0,4 0,0 0)", 3);
+    rule("A(1 0,4 0,0 0,1 0)", 3);
     rule("A(0 0,4 4,4 0,0 4,0 0)", 3);
     rule("A(0 0,8 0,8 8,4 0,0 8,0 0)", 3);
     rule("A(0 0,8 0,8 8,4 1,0 8,0 0)", 0);
@@ -358,6 +359,12 @@ public final class TextBoundsTest {
     rule("A(4 0,8 4,4 8,0 4,4 0)(4 0,4 8,12 4,4 0)", 5);
     rule("A(0 0,4 2,8 0,8 8,0 8,0 0)(2 4,4 2,6 4,4 6,2 4)", 0);
     rule("A(0 0,4 2,8 0,8 8,0 8,0 0)(4 2,3 0,5 0,4 2)", 5);
+    // Three corners of the first ring on one edge of the hole, between two of them it lies outside.
+    String rest = ",4 25,-5 25,-5 -5,25 -5,25 25,17 25,16 10,15 25,6 25,";
+    String hole = "(0 10,20 10,10 0,0 10)";
+    rule("A(5 7,4 10" + rest + "6 10,5 7)" + hole, 5);
+    rule("A(5 12,4 13" + rest + "6 13,5 12)" + hole, 0);
+    rule("A(5 12,4 13" + rest + "6 10,5 12)" + hole, 6);
   }
 
   private static void ruleSix() {
