@@ -19,7 +19,6 @@ public final class PromisesTest {
     promises29to31();
     promises32to37();
     promise38();
-    readme();
     Feeder.finish("PromisesTest");
   }
 
@@ -619,18 +618,5 @@ public final class PromisesTest {
     Feeder.read(map, 0, "L(0 0,100 37)L(0 37,100 1)L(3 99,50 0)L(-7 20,130 21)P(10 4)A(20 20,40 13,31 40,20 20)");
     map.lay(0, -1);
     Feeder.due("38: strays", map.strays(), 0);
-  }
-
-  private static void readme() {
-    LandMap map = new LandMap();
-    map.feed(0x373A4128, 0x3020302C, 0x39203020, 0x2C392039, 0x2C302030);
-    map.feed(0x29000000, 0, 0, 0, 0);
-    map.end(21);
-    Feeder.due("README: read", map.read(0), 1);
-    Feeder.due("README: area2", map.area2(0, 0), 81);
-    Feeder.due("README: lay", map.lay(0, -1), 3);
-    Feeder.due("README: locate", map.locate(5, 1), 1);
-    Feeder.due("README: overlay", map.overlay(1, 0, true), 1);
-    Feeder.due("README: undo", map.undo(), 1);
   }
 }
