@@ -263,7 +263,9 @@ public final class LandMap {
 
   public int locate(int x, int y) {
     if (current == null) return NOWHERE;
-    return inBounds(x, y) ? current.find(x, y) : 0;
+    if (!inBounds(x, y)) return 0;
+    current.lookAtColumn(x);
+    return current.find(x, y);
   }
 
   public int overlay(int layer, int way, boolean split) {
@@ -326,8 +328,10 @@ public final class LandMap {
     if (rasterCount >= RASTERS) return NO_ROOM;
     Raster made = new Raster(w, h);
     for (int i = 0; i < w; i++) {
+      int x = origin[0] + side * i;
+      current.lookAtColumn(x);
       for (int j = 0; j < h; j++) {
-        made.put(i, j, current.valueAt(origin[0] + side * i, origin[1] + side * j));
+        made.put(i, j, current.valueAt(x, origin[1] + side * j));
       }
     }
     return keepRaster(made);
@@ -1547,9 +1551,17 @@ public final class LandMap {
           && sideOf(p, x, y) == 0;
     }
 
-    private int pieceOn(int x, int y) {
+    /** Fills the path with the pieces that reach x: they alone tell what lies at its places. */
+    void lookAtColumn(int x) {
+      path.clear();
       for (int p = 0; p < pieces() && nodeX.get(from.get(p)) <= x; p++) {
-        if (isOn(p, x, y)) return p;
+        if (nodeX.get(to.get(p)) >= x) path.add(p);
+      }
+    }
+
+    private int pieceOn(int x, int y) {
+      for (int i = 0; i < path.count; i++) {
+        if (isOn(path.get(i), x, y)) return path.get(i);
       }
       return -1;
     }
@@ -1557,8 +1569,9 @@ public final class LandMap {
     /** The first piece straight below a place, seen from a hair to its left; -1 if there is none. */
     int pieceBelow(int x, int y) {
       int best = -1;
-      for (int p = 0; p < pieces() && nodeX.get(from.get(p)) < x; p++) {
-        if (nodeX.get(to.get(p)) < x || sideOf(p, x, y) <= 0) continue;
+      for (int i = 0; i < path.count; i++) {
+        int p = path.get(i);
+        if (nodeX.get(from.get(p)) >= x || sideOf(p, x, y) <= 0) continue;
         if (best < 0 || isHigher(p, best, x)) best = p;
       }
       return best;
@@ -1574,13 +1587,13 @@ public final class LandMap {
       return one != two ? one > two : dy * ex < ey * dx;
     }
 
-    /** The face around a place that is on no piece. */
+    /** The face around a place of the column looked at that is on no piece. */
     int faceAround(int x, int y) {
       int below = pieceBelow(x, y);
       return below < 0 ? 0 : faces.wayFace.get(2 * below);
     }
 
-    /** The face in which a place lies, or -1 less the piece on which it lies. */
+    /** The face in which a place of the column looked at lies, or -1 less the piece on which it lies. */
     int find(int x, int y) {
       int on = pieceOn(x, y);
       return on >= 0 ? -1 - on : faceAround(x, y);
@@ -1593,11 +1606,13 @@ public final class LandMap {
       return least < 0 ? BLANK : first.valueOf(least);
     }
 
+    // A piece's places lie between its nodes in their order: what begins behind its
+    // greater node does not meet it.
     int countStrays() {
       path.fill(pieces(), 0);
       for (int p = 0; p < pieces(); p++) {
-        int right = nodeX.get(to.get(p));
-        for (int q = p + 1; q < pieces() && nodeX.get(from.get(q)) <= right; q++) {
+        int last = to.get(p);
+        for (int q = p + 1; q < pieces() && from.get(q) <= last; q++) {
           if (!clash(p, q)) continue;
           path.set(p, 1);
           path.set(q, 1);
@@ -1628,9 +1643,9 @@ public final class LandMap {
     private int strayNodes() {
       path.fill(nodes(), 0);
       for (int p = 0; p < pieces(); p++) {
-        int right = nodeX.get(to.get(p));
-        for (int n = firstNodeFrom(nodeX.get(from.get(p))); n < nodes() && nodeX.get(n) <= right; n++) {
-          if (isInner(p, n)) path.set(n, 1);
+        int last = to.get(p);
+        for (int n = from.get(p) + 1; n < last; n++) {
+          if (isOn(p, nodeX.get(n), nodeY.get(n))) path.set(n, 1);
         }
       }
       return aboveNothing(path);
@@ -1723,7 +1738,9 @@ public final class LandMap {
     }
 
     private int faceAround(int node) {
-      int below = land.pieceBelow(land.nodeX.get(node), land.nodeY.get(node));
+      int x = land.nodeX.get(node);
+      land.lookAtColumn(x);
+      int below = land.pieceBelow(x, land.nodeY.get(node));
       return below < 0 ? 0 : cycleFaces.get(cycleOf.get(2 * below));
     }
 
@@ -1842,8 +1859,9 @@ public final class LandMap {
         part = Math.min(part, next);
       }
       // No piece tells of a lone node: the face around it does.
-      if (land.degree(n) == 0) return partOfFace(side, land.faceAround(x, y));
-      return part;
+      if (land.degree(n) > 0) return part;
+      land.lookAtColumn(x);
+      return partOfFace(side, land.faceAround(x, y));
     }
   }
 
